@@ -9,6 +9,8 @@ public final class PromiseTests {
         newObject();
         append();
         load();
+        loadAgain();
+        loadAndTheBuffer();
         errorOffset();
         counts();
         clock();
@@ -106,7 +108,24 @@ public final class PromiseTests {
         }
         desk.setFire(1);
         check.same("usual rate", desk.rate(), 100);
-        loadAndTheBuffer();
+    }
+
+    /** Nothing of a text lasts into the next one. */
+    private static void loadAgain() {
+        String text = "tunnel 12 1;bay 0;bay 1;bay 2;bay 3;bay 4;bay 5;fire 1;draft -4;rate 3*cars;vent 1 2;fan 1 1;"
+                + "car 3 west;red 4 east;";
+        TunnelControlDesk desk = Check.desk(text);
+        long before = desk.checksum();
+        desk.run(9);
+        check.same("the same text again", Check.load(desk, text), 1);
+        check.same("checksum", desk.checksum(), before);
+        check.same("another text", Check.load(desk, "tunnel 12 1;car 3 west;fire 2;rate 70-cars;"), 1);
+        check.same("rate", desk.rate(), 69);
+        check.same("bay", desk.bay(0), -1);
+        check.no("red", desk.isRed(4, 1));
+        check.same("an error late in the text", Check.load(desk, text + "x"), -2);
+        check.same("the same text again", Check.load(desk, text), 1);
+        check.same("checksum", desk.checksum(), before);
     }
 
     private static void loadAndTheBuffer() {
@@ -602,10 +621,13 @@ public final class PromiseTests {
     }
 
     private static void undoOfEachChange() {
-        TunnelControlDesk desk = Check.desk("tunnel 3 2;fan 0 1;bay 1;red 2 west;fire 2;rate clock+flow;draft 30;vent 1 9;"
-                + "car 0 east;car 1 west;car 1 east;");
+        TunnelControlDesk desk = Check.desk("tunnel 3 2;fan 0 1;bay 1;red 2 west;fire 2;rate 500+clock-flow;draft -30;"
+                + "vent 1 9;car 0 east;car 1 west;car 1 east;red 0 west;");
         desk.run(4);
         String before = state(desk);
+        check.yes("smoke left", desk.total(2) > 0);
+        check.yes("smoke removed", desk.total(3) > 0);
+        check.yes("exposure", desk.exposure(0) > 0);
         desk.run(7);
         check.no("run changes", state(desk).equals(before));
         desk.undo();

@@ -18,6 +18,7 @@ public final class SetupTextTests {
         signals();
         rates();
         rateValues();
+        longTexts();
         firstErrors();
         everyStatementTogether();
         check.finish();
@@ -91,6 +92,11 @@ public final class SetupTextTests {
         error("tunnel 3 1;bay ^/0;", SYNTAX);
         error("tunnel 3 1;bay ^:0;", SYNTAX);
         error("tunnel 3 1;^bayy 0;", SYNTAX);
+        error("tunnel 3 1;^bayz 0;", SYNTAX);
+        error("tunnel 3 1;^baya 0;", SYNTAX);
+        error("tunnel 3 1;^cay 0;", SYNTAX);
+        error("tunnel 3 1;^bas 0;", SYNTAX);
+        error("tunnel 3 1;^gate 1;", SYNTAX);
         error("tunnel 3 1;^ba 0;", SYNTAX);
         error("tunnel 3 1;^bAy 0;", SYNTAX);
         error("tunnel 3 1;^east;", SYNTAX);
@@ -268,6 +274,30 @@ public final class SetupTextTests {
         rateIs("9999*9999*9999/1000/1000", 1000);
         rateIs("1+1*(1+1*(1+1*(1+1*(1+1*5))))", 10);
         rateIs(" ( ( cars ) ) - ( clock ) ", 3);
+    }
+
+    /** Texts that fill the buffer. */
+    private static void longTexts() {
+        for (String sign : new String[] {"+1", "*1", "/1", "-0"}) {
+            String text = "tunnel 2 1;fire 0;rate 9";
+            int signs = 0;
+            while (text.length() < 798) {
+                text += sign;
+                signs++;
+            }
+            check.same("rate of many " + sign, Check.desk(text + ";").rate(), sign.equals("+1") ? 9 + signs : 9);
+        }
+        String text = "tunnel 2 1";
+        while (text.length() < 790) {
+            text += ";red 1west";
+        }
+        error(text + "^", SYNTAX);
+        good(text + ";", 0);
+        error(text + ";        ^!", SYNTAX);
+        good("tunnel 2 " + "0".repeat(789) + "1;", 0);
+        error("tunnel 2 ^" + "9".repeat(790) + ";", RANGE);
+        error("^" + "a".repeat(800), SYNTAX);
+        error(" ".repeat(800) + "^", SYNTAX);
     }
 
     /** Of several errors, the one with the smallest offset counts. */

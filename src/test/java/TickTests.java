@@ -5,6 +5,7 @@ public final class TickTests {
     public static void main(String[] args) {
         smokeMovesEast();
         smokeMovesWest();
+        smallestFlows();
         ventsComeFirst();
         smokeMovesOnceATick();
         muchSmoke();
@@ -16,6 +17,7 @@ public final class TickTests {
         turningNeedsRoom();
         movedCarsDoNotTurn();
         exposureComesAfterDriving();
+        fullTunnel();
         check.finish();
     }
 
@@ -56,6 +58,19 @@ public final class TickTests {
         desk.run(1);
         smokes("no fire", desk, 51 + 88, 89, 0);
         totals("no fire", desk, 303, 228, 75, 0);
+    }
+
+    private static void smallestFlows() {
+        TunnelControlDesk desk = Check.desk("tunnel 3 1;draft 1;fire 1;rate 250;");
+        desk.run(2);
+        smokes("flow 1", desk, 0, 498, 2);
+        desk = Check.desk("tunnel 3 1;draft -1;fire 1;rate 250;");
+        desk.run(2);
+        smokes("flow -1", desk, 2, 498, 0);
+        desk = Check.desk("tunnel 3 1;fire 1;rate 250;vent 1 1;");
+        desk.run(2);
+        smokes("flow 0", desk, 0, 498, 0);
+        totals("flow 0", desk, 500, 498, 0, 2);
     }
 
     private static void ventsComeFirst() {
@@ -159,6 +174,9 @@ public final class TickTests {
         desk = Check.desk("tunnel 3 1;fire 1;bay 1;red 2 east;car 1 east;");
         desk.run(2);
         car("no turning in the fire", desk, 0, 1, 1);
+        desk = Check.desk("tunnel 3 1;fire 1;bay 1;red 0 west;car 1 west;");
+        desk.run(2);
+        car("no turning in the fire", desk, 0, 1, -1);
     }
 
     private static void carsTurn() {
@@ -176,6 +194,12 @@ public final class TickTests {
         desk = Check.desk("tunnel 5 1;fire 4;bay 1;red 2 east;car 1 east;");
         desk.run(1);
         car("far fire", desk, 0, 1, -1);
+        desk = Check.desk("tunnel 5 1;fire 0;bay 1;car 1 west;");
+        desk.run(1);
+        car("fire at the end", desk, 0, 1, 1);
+        desk = Check.desk("tunnel 5 1;fire 4;bay 3;car 3 east;");
+        desk.run(1);
+        car("fire at the other end", desk, 0, 3, -1);
         desk = Check.desk("tunnel 5 1;fire 2;bay 1;car 1 east;");
         desk.setBay(1, false);
         desk.run(2);
@@ -199,6 +223,25 @@ public final class TickTests {
         desk.run(1);
         car("smaller index turns", desk, 1, 1, -1);
         car("smaller index turns", desk, 2, 1, 1);
+    }
+
+    /** The most sections, cars, bays, fans and vents. */
+    private static void fullTunnel() {
+        StringBuilder text = new StringBuilder("tunnel 12 1;fire 6;rate 9999;");
+        for (int i = 0; i < 12; i++) {
+            text.append("fan ").append(i).append(i < 6 ? " -2;" : " 3;").append("vent ").append(i).append(" 1;");
+            text.append(i % 2 == 1 ? "bay " + i + ";" : "");
+            text.append(i < 10 ? "car " + i + " east;" : "").append(i > 1 ? "car " + i + " west;" : "");
+        }
+        TunnelControlDesk desk = Check.desk(text.toString());
+        check.same("cars", desk.carCount(), 20);
+        check.same("flow", desk.flow(), 6);
+        check.same("left", desk.run(1), 0);
+        int left = desk.run(40) + desk.run(40);
+        check.same("left and inside", left + desk.inside(), 20);
+        check.same("all smoke", desk.total(0), 81 * 9999);
+        check.same("sum of the totals", desk.total(1) + desk.total(2) + desk.total(3), 81 * 9999);
+        check.yes("smoke at both ends", desk.smoke(11) > 0 && desk.smoke(0) == 0);
     }
 
     private static void movedCarsDoNotTurn() {
