@@ -757,32 +757,25 @@ public final class TunnelControlDesk {
                 next++;
             }
             start = next;
-            value = 0;
             if (next >= length) {
                 kind = END;
-                return;
-            }
-            kind = kindOf(bytes[next]);
-            next++;
-            if (kind == NUMBER) {
-                value = bytes[start] - '0';
-                while (next < length && kindOf(bytes[next]) == NUMBER) {
-                    // Every value from the limit on is out of any range.
-                    value = Math.min(VALUE_LIMIT, 10 * value + bytes[next] - '0');
+            } else if (bytes[next] >= '0' && bytes[next] <= '9') {
+                kind = NUMBER;
+                value = 0;
+                while (next < length && bytes[next] >= '0' && bytes[next] <= '9') {
+                    // A value beyond the limit is out of any range and grows no more.
+                    value = value > VALUE_LIMIT ? value : 10 * value + bytes[next] - '0';
                     next++;
                 }
-            } else if (kind == WORD) {
-                while (next < length && kindOf(bytes[next]) == WORD) {
+            } else if (bytes[next] >= 'a' && bytes[next] <= 'z') {
+                kind = WORD;
+                while (next < length && bytes[next] >= 'a' && bytes[next] <= 'z') {
                     next++;
                 }
+            } else {
+                kind = bytes[next];
+                next++;
             }
-        }
-
-        private static int kindOf(byte sign) {
-            if (sign >= '0' && sign <= '9') {
-                return NUMBER;
-            }
-            return sign >= 'a' && sign <= 'z' ? WORD : sign;
         }
 
         boolean isWord(String word) {
@@ -840,7 +833,7 @@ public final class TunnelControlDesk {
 
         private boolean readTunnel() {
             if (!input.isWord("tunnel")) {
-                return failHere(SYNTAX_ERROR);
+                return fail(SYNTAX_ERROR, input.start);
             }
             input.advance();
             if (!readNumber(2, SECTION_LIMIT)) {
@@ -877,14 +870,14 @@ public final class TunnelControlDesk {
                 return readRed();
             }
             if (input.isWord("rate")) {
-                return readRate();
+                return beginRate() && readSum(0) && endRate();
             }
-            return failHere(SYNTAX_ERROR);
+            return fail(SYNTAX_ERROR, input.start);
         }
 
         private boolean readBay() {
             if (bays >= BAY_LIMIT) {
-                return failHere(TOO_MANY);
+                return fail(TOO_MANY, input.start);
             }
             input.advance();
             if (!readSection()) {
@@ -933,7 +926,7 @@ public final class TunnelControlDesk {
 
         private boolean readCar() {
             if (tunnel.plan.cars >= CAR_LIMIT) {
-                return failHere(TOO_MANY);
+                return fail(TOO_MANY, input.start);
             }
             input.advance();
             if (!readSection() || !readWay()) {
@@ -948,7 +941,7 @@ public final class TunnelControlDesk {
 
         private boolean readFire() {
             if (fireRead) {
-                return failHere(SYNTAX_ERROR);
+                return fail(SYNTAX_ERROR, input.start);
             }
             fireRead = true;
             input.advance();
@@ -961,7 +954,7 @@ public final class TunnelControlDesk {
 
         private boolean readDraft() {
             if (draftRead) {
-                return failHere(SYNTAX_ERROR);
+                return fail(SYNTAX_ERROR, input.start);
             }
             draftRead = true;
             input.advance();
@@ -981,16 +974,17 @@ public final class TunnelControlDesk {
             return true;
         }
 
-        private boolean readRate() {
+        private boolean beginRate() {
             if (rateRead) {
-                return failHere(SYNTAX_ERROR);
+                return fail(SYNTAX_ERROR, input.start);
             }
             rateRead = true;
             input.advance();
             codeCount = 0;
-            if (!readSum(0)) {
-                return false;
-            }
+            return true;
+        }
+
+        private boolean endRate() {
             int[] program = new int[codeCount];
             System.arraycopy(codes, 0, program, 0, codeCount);
             tunnel.plan.rateProgram = new RateProgram(program);
@@ -1030,14 +1024,14 @@ public final class TunnelControlDesk {
         private boolean readFactor(int depth) {
             if (input.kind == '(') {
                 if (depth >= NESTING_LIMIT) {
-                    return failHere(TOO_DEEP);
+                    return fail(TOO_DEEP, input.start);
                 }
                 input.advance();
                 return readSum(depth + 1) && readSign(')');
             }
             if (input.kind == Input.NUMBER) {
                 if (input.value > RATE_LIMIT) {
-                    return failHere(OUT_OF_RANGE);
+                    return fail(OUT_OF_RANGE, input.start);
                 }
                 putCode(input.value);
             } else if (input.isWord("clock")) {
@@ -1047,7 +1041,7 @@ public final class TunnelControlDesk {
             } else if (input.isWord("flow")) {
                 putCode(RateProgram.FLOW);
             } else {
-                return failHere(SYNTAX_ERROR);
+                return fail(SYNTAX_ERROR, input.start);
             }
             input.advance();
             return true;
@@ -1078,10 +1072,10 @@ public final class TunnelControlDesk {
 
         private boolean readNumber(int least, int most) {
             if (input.kind != Input.NUMBER) {
-                return failHere(SYNTAX_ERROR);
+                return fail(SYNTAX_ERROR, input.start);
             }
             if (input.value < least || input.value > most) {
-                return failHere(OUT_OF_RANGE);
+                return fail(OUT_OF_RANGE, input.start);
             }
             number = input.value;
             numberOffset = input.start;
@@ -1095,7 +1089,7 @@ public final class TunnelControlDesk {
             } else if (input.isWord("west")) {
                 way = WEST;
             } else {
-                return failHere(SYNTAX_ERROR);
+                return fail(SYNTAX_ERROR, input.start);
             }
             input.advance();
             return true;
@@ -1103,14 +1097,10 @@ public final class TunnelControlDesk {
 
         private boolean readSign(int sign) {
             if (input.kind != sign) {
-                return failHere(SYNTAX_ERROR);
+                return fail(SYNTAX_ERROR, input.start);
             }
             input.advance();
             return true;
-        }
-
-        private boolean failHere(int code) {
-            return fail(code, input.start);
         }
 
         private boolean fail(int code, int offset) {

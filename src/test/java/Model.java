@@ -173,18 +173,23 @@ final class Model {
             return -1;
         }
 
+        private State withBays(int set) {
+            State trial = copy();
+            for (int s = 0; s < sections; s++) {
+                trial.bays[s] = bays[s] == null ? null : Boolean.valueOf((set >> s & 1) == 1);
+            }
+            return trial;
+        }
+
         long[] bestBays() {
             long best = -1;
             long bestTime = -1;
             for (int set = 0; set < 1 << sections; set++) {
-                State trial = copy();
                 boolean possible = true;
                 for (int s = 0; s < sections; s++) {
-                    boolean open = (set >> s & 1) == 1;
-                    possible &= !open || bays[s] != null;
-                    trial.bays[s] = bays[s] == null ? null : Boolean.valueOf(open);
+                    possible &= (set >> s & 1) == 0 || bays[s] != null;
                 }
-                int time = possible ? trial.clearingTime(200) : -1;
+                int time = possible ? withBays(set).clearingTime(200) : -1;
                 if (time < 0) {
                     continue;
                 }

@@ -235,6 +235,19 @@ public final class TickTests {
         }
         TunnelControlDesk desk = Check.desk(text.toString());
         check.same("cars", desk.carCount(), 20);
+        check.same("no exposure in no ticks", desk.exposureWith(10, 0), 0);
+        check.same("the cars in the fire drive on first", desk.exposureWith(0, 1), 0);
+        int best = desk.bestSetting(60);
+        for (int setting = -10; setting <= 10; setting++) {
+            check.yes("best of all settings", desk.exposureWith(best, 60) <= desk.exposureWith(setting, 60));
+        }
+        // The cars that come up to the fire need the bays beside it.
+        int bays = desk.bestBays();
+        check.same("bestBays", bays & (1 << 5 | 1 << 7), 1 << 5 | 1 << 7);
+        for (int i = 1; i < 12; i += 2) {
+            desk.setBay(i, (bays >> i & 1) == 1);
+        }
+        check.same("bestBayTime", desk.bestBayTime(), desk.clearingTime(200));
         check.same("flow", desk.flow(), 6);
         check.same("left", desk.run(1), 0);
         int left = desk.run(40) + desk.run(40);
