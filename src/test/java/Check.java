@@ -51,6 +51,25 @@ final class Check {
         throwing(what, IllegalStateException.class, call);
     }
 
+    /** The text has its first error where the mark ^ stands in it, and leaves no tunnel. */
+    void textError(String marked, int code) {
+        int offset = marked.indexOf('^');
+        textError(marked.substring(0, offset) + marked.substring(offset + 1), code, offset);
+    }
+
+    void textError(String text, int code, int offset) {
+        TunnelControlDesk desk = new TunnelControlDesk();
+        same("load of " + text, load(desk, text), code);
+        same("errorOffset after " + text, desk.errorOffset(), offset);
+        same("sectionCount after " + text, desk.sectionCount(), 0);
+    }
+
+    void textGood(String text, int cars) {
+        TunnelControlDesk desk = new TunnelControlDesk();
+        same("load of " + text, load(desk, text), cars);
+        same("errorOffset after " + text, desk.errorOffset(), -1);
+    }
+
     void finish() {
         System.out.println(name + ": " + checks + " checks, " + wrong + " wrong");
         if (wrong > 0) {
@@ -83,5 +102,30 @@ final class Check {
             throw new IllegalStateException("error " + cars + " at " + desk.errorOffset() + " in " + text);
         }
         return desk;
+    }
+
+    /** All that the face tells of a desk, and what it will do. */
+    static String state(TunnelControlDesk desk) {
+        StringBuilder text = new StringBuilder();
+        text.append(desk.clock()).append(' ').append(desk.flow()).append(' ').append(desk.rate()).append(' ')
+                .append(desk.fireSection()).append(' ').append(desk.inside()).append(' ').append(desk.checksum());
+        for (int i = 0; i < 4; i++) {
+            text.append(" t").append(desk.total(i));
+        }
+        for (int i = 0; i < desk.sectionCount(); i++) {
+            text.append(" s").append(desk.smoke(i)).append(' ').append(desk.bay(i)).append(desk.isRed(i, 1))
+                    .append(desk.isRed(i, -1)).append(desk.carsIn(i, 1)).append(desk.carsIn(i, -1));
+            try {
+                text.append('f').append(desk.fan(i));
+            } catch (IllegalStateException e) {
+                text.append("no fan");
+            }
+        }
+        for (int i = 0; i < desk.carCount(); i++) {
+            text.append(" c").append(desk.carSection(i)).append(desk.carDirection(i)).append(' ')
+                    .append(desk.exposure(i));
+        }
+        text.append(' ').append(desk.clearingTime(200)).append(' ').append(desk.exposureWith(3, 20));
+        return text.toString();
     }
 }

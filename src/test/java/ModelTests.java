@@ -5,11 +5,14 @@ import java.util.function.LongSupplier;
 /** Random runs of calls, the same ones each time, on a desk and on the model. */
 public final class ModelTests {
     private static final int RUNS = 1000;
-    private static final int CALLS = 200;
+    private static final int STEPS = 200;
+    /** An object is used for at most 512 calls; the longest step takes some 50. */
+    private static final int CALLS = 450;
     private static final int TEXTS = 20000;
 
     private static final Check check = new Check("ModelTests");
     private static long seed;
+    private static int calls;
 
     public static void main(String[] args) {
         for (int run = 0; run < RUNS; run++) {
@@ -43,6 +46,7 @@ public final class ModelTests {
     }
 
     private static void compare(String what, LongSupplier desk, LongSupplier model) {
+        calls++;
         String got = answer(desk);
         String due = answer(model);
         check.yes(got.equals(due) ? what : what + " (answered " + got + ", due is " + due + ") as due", got.equals(due));
@@ -69,12 +73,13 @@ public final class ModelTests {
     private static void oneRun(int run) {
         TunnelControlDesk desk = new TunnelControlDesk();
         Model model = new Model();
-        String name = "run " + run + ", call ";
-        for (int call = 0; call < CALLS; call++) {
-            if (chance(call == 0 ? 95 : 4)) {
-                bring(name + call + ": ", desk, model, chance(80) ? text() : spoilt(text()));
+        String name = "run " + run + ", step ";
+        calls = 0;
+        for (int step = 0; step < STEPS && calls < CALLS; step++) {
+            if (chance(step == 0 ? 95 : 4)) {
+                bring(name + step + ": ", desk, model, chance(80) ? text() : spoilt(text()));
             }
-            oneCall(name + call + ": ", desk, model);
+            oneCall(name + step + ": ", desk, model);
         }
     }
 

@@ -624,14 +624,14 @@ public final class PromiseTests {
         TunnelControlDesk desk = Check.desk("tunnel 3 2;fan 0 1;bay 1;red 2 west;fire 2;rate 500+clock-flow;draft -30;"
                 + "vent 1 9;car 0 east;car 1 west;car 1 east;red 0 west;");
         desk.run(4);
-        String before = state(desk);
+        String before = Check.state(desk);
         check.yes("smoke left", desk.total(2) > 0);
         check.yes("smoke removed", desk.total(3) > 0);
         check.yes("exposure", desk.exposure(0) > 0);
         desk.run(7);
-        check.no("run changes", state(desk).equals(before));
+        check.no("run changes", Check.state(desk).equals(before));
         desk.undo();
-        check.yes("run undone", state(desk).equals(before));
+        check.yes("run undone", Check.state(desk).equals(before));
         desk.setFan(0, -5);
         desk.setBay(1, false);
         desk.setSignal(2, -1, false);
@@ -639,39 +639,14 @@ public final class PromiseTests {
         desk.setFire(-1);
         Check.load(desk, "tunnel 2 1;draft -3;vent 0 1;fan 1 2;car 0 west;rate 3;");
         desk.run(2);
-        for (int i = 0; i < 7; i++) {
-            check.no("changed", state(desk).equals(before));
-            desk.undo();
+        check.no("changed", Check.state(desk).equals(before));
+        for (int i = 7; i > 0; i--) {
+            check.same("undo", desk.undo(), i);
         }
-        check.yes("all undone", state(desk).equals(before));
+        check.yes("all undone", Check.state(desk).equals(before));
         check.same("one is left", desk.undo(), 0);
         check.same("clock", desk.clock(), 0);
         check.same("total", desk.total(0), 0);
-    }
-
-    /** All that the face tells of a desk, and what it will do. */
-    private static String state(TunnelControlDesk desk) {
-        StringBuilder text = new StringBuilder();
-        text.append(desk.clock()).append(' ').append(desk.flow()).append(' ').append(desk.rate()).append(' ')
-                .append(desk.fireSection()).append(' ').append(desk.inside()).append(' ').append(desk.checksum());
-        for (int i = 0; i < 4; i++) {
-            text.append(" t").append(desk.total(i));
-        }
-        for (int i = 0; i < desk.sectionCount(); i++) {
-            text.append(" s").append(desk.smoke(i)).append(' ').append(desk.bay(i)).append(desk.isRed(i, 1))
-                    .append(desk.isRed(i, -1)).append(desk.carsIn(i, 1)).append(desk.carsIn(i, -1));
-            try {
-                text.append('f').append(desk.fan(i));
-            } catch (IllegalStateException e) {
-                text.append("no fan");
-            }
-        }
-        for (int i = 0; i < desk.carCount(); i++) {
-            text.append(" c").append(desk.carSection(i)).append(desk.carDirection(i)).append(' ')
-                    .append(desk.exposure(i));
-        }
-        text.append(' ').append(desk.clearingTime(200)).append(' ').append(desk.exposureWith(3, 20));
-        return text.toString();
     }
 
     /** Promise 32. */
@@ -711,19 +686,19 @@ public final class PromiseTests {
     private static void predictionsChangeNothing() {
         TunnelControlDesk desk = Check.desk("tunnel 5 2;bay 1;bay 3;car 0 east;car 2 east;fire 4;fan 0 1;draft -30;");
         desk.run(2);
-        String before = state(desk);
+        String before = Check.state(desk);
         desk.clearingTime(200);
         desk.bestBays();
         desk.bestBayTime();
         desk.exposureWith(-10, 60);
         desk.bestSetting(60);
-        check.yes("the same", state(desk).equals(before));
+        check.yes("the same", Check.state(desk).equals(before));
         check.same("no changes", desk.undo(), 1);
     }
 
     private static void exceptionsChangeNothing() {
         TunnelControlDesk desk = Check.desk("tunnel 3 1;bay 1;car 0 east;fire 2;fan 0 1;");
-        String before = state(desk);
+        String before = Check.state(desk);
         check.illegalArgument("load", () -> desk.load(1));
         check.illegalArgument("run", () -> desk.run(0));
         check.illegalArgument("setFan", () -> desk.setFan(0, 11));
@@ -731,7 +706,7 @@ public final class PromiseTests {
         check.outOfBounds("setFire", () -> desk.setFire(3));
         check.illegalArgument("setSignal", () -> desk.setSignal(0, 0, true));
         check.illegalState("setBay", () -> desk.setBay(0, true));
-        check.yes("the same", state(desk).equals(before));
+        check.yes("the same", Check.state(desk).equals(before));
         check.same("no changes", desk.undo(), 0);
     }
 

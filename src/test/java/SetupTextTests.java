@@ -24,20 +24,12 @@ public final class SetupTextTests {
         check.finish();
     }
 
-    /** The error stands where the mark ^ stands in the text. */
     private static void error(String marked, int code) {
-        int offset = marked.indexOf('^');
-        String text = marked.substring(0, offset) + marked.substring(offset + 1);
-        TunnelControlDesk desk = new TunnelControlDesk();
-        check.same("load of " + marked, Check.load(desk, text), code);
-        check.same("errorOffset after " + marked, desk.errorOffset(), offset);
-        check.same("sectionCount after " + marked, desk.sectionCount(), 0);
+        check.textError(marked, code);
     }
 
     private static void good(String text, int cars) {
-        TunnelControlDesk desk = new TunnelControlDesk();
-        check.same("load of " + text, Check.load(desk, text), cars);
-        check.same("errorOffset after " + text, desk.errorOffset(), -1);
+        check.textGood(text, cars);
     }
 
     private static void headers() {
