@@ -1,5 +1,8 @@
 import java.io.IOException;
 import java.lang.management.ManagementFactory;
+import java.lang.reflect.Field;
+import java.lang.reflect.Method;
+import java.lang.reflect.Modifier;
 import java.nio.file.Files;
 import java.nio.file.Path;
 import java.util.regex.Matcher;
@@ -18,6 +21,8 @@ public final class LanguageTests {
 
     public static void main(String[] args) throws IOException {
         words();
+        classes();
+        methodLengths();
         room();
         check.finish();
     }
@@ -32,6 +37,65 @@ public final class LanguageTests {
                 .matcher(source);
         check.no("another throw", thrown.find());
         check.same("signs beyond 127", source.chars().filter(sign -> sign > 127).count(), 0);
+    }
+
+    /** Rules 1, 2, 5 and 11. */
+    private static void classes() {
+        Class<?>[] inside = TunnelControlDesk.class.getDeclaredClasses();
+        check.yes("at most twelve classes", inside.length < 12);
+        sizes(TunnelControlDesk.class);
+        for (Class<?> one : inside) {
+            check.yes(one + " is static", Modifier.isStatic(one.getModifiers()));
+            check.no(one + " is public or protected", (one.getModifiers() & (Modifier.PUBLIC | Modifier.PROTECTED)) != 0);
+            check.same("classes inside " + one, one.getDeclaredClasses().length, 0);
+            sizes(one);
+        }
+    }
+
+    private static void sizes(Class<?> one) {
+        int fields = 0;
+        for (Field field : one.getDeclaredFields()) {
+            boolean isStatic = Modifier.isStatic(field.getModifiers());
+            fields += isStatic ? 0 : 1;
+            check.yes(field + " is final if static", !isStatic || Modifier.isFinal(field.getModifiers()));
+        }
+        check.yes("at most twenty fields in " + one, fields <= 20);
+        for (Method method : one.getDeclaredMethods()) {
+            check.yes("at most seven parameters of " + method, method.getParameterCount() <= 7);
+            check.no(method + " bears the name of a public one",
+                    !Modifier.isPublic(method.getModifiers()) && isFaceName(method.getName()));
+        }
+    }
+
+    private static boolean isFaceName(String name) {
+        for (Method method : TunnelControlDesk.class.getDeclaredMethods()) {
+            if (Modifier.isPublic(method.getModifiers()) && method.getName().equals(name)) {
+                return true;
+            }
+        }
+        return false;
+    }
+
+    /** Rule 11: a body begins with a line that ends in ") {" at a member's depth, and ends with its brace there. */
+    private static void methodLengths() throws IOException {
+        int start = -1;
+        String end = "";
+        int bodies = 0;
+        int line = 0;
+        for (String text : Files.readAllLines(SOURCE)) {
+            line++;
+            String depth = text.startsWith("        ") ? "        " : "    ";
+            boolean begins = text.matches(depth + "(?!if|for|while|switch|throws)\\w.*\\(.*") && !text.endsWith(";");
+            if (start < 0 && begins) {
+                start = line;
+                end = depth + "}";
+            } else if (start >= 0 && text.equals(end)) {
+                check.yes("some sixty lines from line " + start, line - start < 60);
+                start = -1;
+                bodies++;
+            }
+        }
+        check.yes("bodies were found", bodies > 90);
     }
 
     /** All calls of a run share one room, so that only a new object and a load may take some. */
